@@ -256,11 +256,14 @@ public final class BillRegistry {
             return NO_SUCH;
         }
         Bill b = now.bills[bill];
-        int cause = causeAt(b, party, level);
-        if (what == 0 || cause == 0) {
-            return cause;
+        int cause = b.whyNot(party, now.today);
+        if (level > 0) {
+            cause = b.comesOf(party, cause, now.today, now.graceDays);
         }
-        return b.placeOf(party, cause);
+        if (level > 1) {
+            cause = cause == BROKEN ? b.chain.brokenOf : 0;
+        }
+        return what == 0 || cause == 0 ? cause : b.placeOf(party, cause);
     }
 
     public int liable(int bill) {
@@ -383,7 +386,7 @@ public final class BillRegistry {
         return true;
     }
 
-    // ---- the text's lines, the causes
+    // ---- of all of these
 
     private int reasonOfLine() {
         int[] n = reader.numbers;
@@ -415,18 +418,6 @@ public final class BillRegistry {
     // a dishonour is no refusal, though the answer that tells it is not 0
     private static int refusalOf(int presented) {
         return presented == DISHONOURED ? 0 : presented;
-    }
-
-    private int causeAt(Bill b, int party, int level) {
-        int first = b.whyNot(party, now.today);
-        if (level == 0) {
-            return first;
-        }
-        int second = b.comesOf(party, first, now.today, now.graceDays);
-        if (level == 1) {
-            return second;
-        }
-        return second == BROKEN ? b.chain.brokenOf : 0;
     }
 
     private static boolean isPerson(int n) {
@@ -1313,7 +1304,7 @@ public final class BillRegistry {
         }
 
         boolean readLine() {
-            if (!takeVerb()) {
+            if (!readVerb()) {
                 return false;
             }
             for (int i = 0; i < verb.numbers && i < MOST_NUMBERS; i++) {
@@ -1323,8 +1314,14 @@ public final class BillRegistry {
                 numbers[i] = value;
                 move();
             }
-            notice = verb.mayNotice && takeWord("notice");
-            without = verb.mayWithout && takeWord("without");
+            notice = verb.mayNotice && isWord("notice");
+            if (notice) {
+                move();
+            }
+            without = verb.mayWithout && isWord("without");
+            if (without) {
+                move();
+            }
             if (kind != SEMICOLON) {
                 return false;
             }
@@ -1332,17 +1329,18 @@ public final class BillRegistry {
             return true;
         }
 
-        private boolean takeVerb() {
+        private boolean readVerb() {
             for (int i = 0; i < VERBS.length; i++) {
-                if (takeWord(VERBS[i].word)) {
+                if (isWord(VERBS[i].word)) {
                     verb = VERBS[i];
+                    move();
                     return true;
                 }
             }
             return false;
         }
 
-        private boolean takeWord(String word) {
+        private boolean isWord(String word) {
             if (kind != WORD || behind - place != word.length()) {
                 return false;
             }
@@ -1351,7 +1349,6 @@ public final class BillRegistry {
                     return false;
                 }
             }
-            move();
             return true;
         }
 
