@@ -170,8 +170,70 @@ public final class BillRegistryPromises {
         is(0, x.count(4));
         is(0, x.count(7));
         is(0, x.refused());
+        // a bill drawn then has nothing of the one that was there
+        is(0, x.draw(5, 6, 7, 3, 2));
+        int[] due = {5, 6, 7, 3, 6, 0, 0, 7, 0, -1, 0, 0, 7, 7, 1, 0, -1, 1, 2, 0};
+        for (int what = 0; what < due.length; what++) {
+            is(due[what], x.bill(0, what));
+        }
+        for (int party = 0; party < 2; party++) {
+            is(-1, x.party(0, party, 2));
+            is(0, x.party(0, party, 3));
+            is(0, x.party(0, party, 4));
+        }
+        x.pass(0, 1, 2, 0, false);
+        is(0, x.step(0, 0, 4));
+        is(0, x.step(0, 0, 5));
+        is(0, x.step(0, 0, 6));
+        is(2, x.bill(0, 13));
+        is(1, x.bill(0, 14));
         is(true, x.again(1));
         is(2, x.count(1));
+        // the same behind a bill that was accepted, lost, taken up, done
+        x.text(true);
+        x.day(9);
+        x.draw(3, 1, 12, 9, 0);
+        x.accept(0);
+        x.cash(1, 0);
+        x.pass(0, 10, 4, 7, true);
+        x.present(0);
+        x.tell(0, -1, 1);
+        x.defend(0, 0, false);
+        x.release(0, 2);
+        is(0, x.pay(0, 1));
+        x.defend(0, 1, false);
+        x.find(0, 6);
+        x.pass(0, 3, 3, 0, false);
+        x.cash(1, 50);
+        is(9, x.pay(0, 0));
+        x.draw(3, 1, 2, 9, 0);
+        x.accept(1);
+        x.present(1);
+        x.draw(3, 1, 2, 9, 0);
+        x.find(2, 5);
+        x.pass(2, 0, 6, 9, false);
+        is(1, x.bill(2, 16));
+        is(0, x.text(true));
+        is(0, x.count(0));
+        for (int b = 0; b < 3; b++) {
+            is(b, x.draw(5, 6, 7, 3, 6));
+            for (int what = 0; what < due.length; what++) {
+                is(due[what], x.bill(b, what));
+            }
+            for (int party = 0; party < 2; party++) {
+                is(-1, x.party(b, party, 2));
+                is(0, x.party(b, party, 3));
+                is(0, x.party(b, party, 4));
+            }
+            is(0, x.find(b, 2));
+            is(0, x.step(b, 0, 4));
+            is(0, x.step(b, 0, 5));
+            is(0, x.step(b, 0, 6));
+            is(0, x.forge(b, 7, 2 + 1, 9, true));
+            is(0, x.step(b, 1, 6));
+            is(1, x.bill(b, 19));
+        }
+        x.again(1);
         // all is as at first ahead of the text, be there a fault in it or not
         tape("day 4");
         is(-1, x.text(true));
@@ -184,6 +246,7 @@ public final class BillRegistryPromises {
         anew(5);
         is(0, fault("x"));
         is(0, fault("dayx 1;"));
+        is(0, fault("dayz 1;"));
         is(0, fault("da"));
         is(0, fault(";"));
         is(2, fault("  7"));
@@ -210,6 +273,33 @@ public final class BillRegistryPromises {
         is(9, fault("find 0 1 notice;"));
         is(0, fault("pass 0 0 1 2;"));
         is(0, fault("notice;"));
+        is(0, fault("zzzz"));
+        String[] bare = {"day 1", "cash 1 1", "grace 1", "draw 1 1 1 1 1", "open 1 1 1 1 1", "accept 1", "find 1 1", "real 1 1", "personal 1 1",
+            "present 1", "hand 1 1", "notify 1 1 1", "release 1 1", "pay 1 1"};
+        for (String line : bare) {
+            is(line.length() + 1, fault(line + " notice;"));
+            is(line.length() + 1, fault(line + " without;"));
+            is(line.length() - 1, fault(line.substring(0, line.length() - 1) + ";"));
+            is(line.length() + 1, fault(line + " 1;"));
+            is(line.length(), fault(line));
+        }
+        for (String word : new String[] {"blank", "special", "agent", "deliver"}) {
+            is(0, lines(word + " 0 1 1 notice without;"));
+            is(30, x.refused());
+            is(word.length() + 5, fault(word + " 0 1 ;"));
+        }
+        // a tape that is full to its last byte
+        is(0, fault("z".repeat(600)));
+        is(4, fault("day " + "0".repeat(596)));
+        is(600, fault("day 1;".repeat(99) + "day  1"));
+        is(600, fault("day 1;".repeat(99) + "day   "));
+        is(600, fault("day 1;".repeat(99) + "notify"));
+        is(594, fault("day 1;".repeat(99) + "notifz"));
+        x.image(0);
+        is(100, lines("day 1;".repeat(100)));
+        is(100, x.count(0));
+        x.again(0);
+        x.end(0);
         // the latest text alone counts
         is(0, lines(""));
         is(-1, x.fault());
@@ -414,6 +504,13 @@ public final class BillRegistryPromises {
     }
 
     private static void dueCourse() {
+        // class 2 goes on as 2
+        anew(12);
+        x.draw(0, 1, 12, 50, 1);
+        x.pass(0, 3, 3, 1, false);
+        x.pass(0, 3, 4, 0, false);
+        x.pass(0, 3, 5, 1, true);
+        is(2, x.bill(0, 14));
         anew(12);
         x.draw(0, 1, 12, 50, 1);
         x.draw(0, 1, 12, 50, 1);
@@ -836,6 +933,24 @@ public final class BillRegistryPromises {
         x.forge(0, 3, 7, 0, false);
         is(2, x.bill(0, 16));
         is(1, x.bill(0, 19));
+        // .. nor is it to bearer any more, as it was at first
+        anew(21);
+        x.draw(3, 1, 12, 50, 0);
+        x.present(0);
+        x.tell(0, -1, 1);
+        is(0, x.pay(0, 1));
+        x.find(0, 6);
+        x.forge(0, 5, 7, 9, false);
+        is(-1, x.bill(0, 19));
+        // as many steps as there may be, each of them forged
+        anew(21);
+        x.draw(3, 1, 2, 50, 0);
+        for (int i = 0; i < 6; i++) {
+            x.find(0, 4);
+            x.forge(0, 2 + i % 2, 3 - i % 2, 9, false);
+        }
+        is(12, x.bill(0, 8));
+        is(6, x.bill(0, 19));
     }
 
     private static void step() {
@@ -1007,6 +1122,10 @@ public final class BillRegistryPromises {
         is(0, x.reach(0));
         promise = 25;
         is(10, x.liable(0));
+        x.cash(1, 10);
+        x.draw(0, 1, 2, 40, 0);
+        x.accept(1);
+        is(1, x.liable(1));
         promise = 26;
         // a party that was told lately reaches the lesser ones, when the hand is late
         anew(26);
@@ -1048,6 +1167,10 @@ public final class BillRegistryPromises {
         is(0, x.gains(0, -1));
         is(0, x.gains(1, 0));
         promise = 29;
+        x.image(0);
+        x.cash(0, 0);
+        is(2, x.ends(0));
+        x.again(0);
         is(0, x.ends(0));
         is(-1, x.ends(1));
         is(-1, x.ends(-1));
@@ -1124,6 +1247,16 @@ public final class BillRegistryPromises {
         x.find(0, 6);
         is(11, x.until(0, 1));
         is(-1, x.until(0, 4));
+        // not below the hand's rank
+        anew(32);
+        x.draw(0, 1, 12, 40, 0);
+        x.pass(0, 0, 3, 5, false);
+        x.pass(0, 0, 4, 5, false);
+        x.pass(0, 0, 3, 5, false);
+        x.present(0);
+        is(-1, x.until(0, 3));
+        is(-1, x.until(0, 4));
+        is(2, x.until(0, 2));
         // not signed, not dishonoured
         anew(32);
         x.draw(0, 1, 12, 40, 0);
@@ -1200,13 +1333,88 @@ public final class BillRegistryPromises {
         is(1, x.text(false));
         is(7, x.count(0));
         // an image is a copy, and may be taken up again
+        x.feed(0, 0, 0, 0, 0);
         is(true, x.again(0));
         is(0, x.count(0));
         is(20, x.count(8));
+        is(1, x.text(false));
         is(true, x.again(2));
         is(2, x.count(1));
         is(7, x.count(2));
         is(9, x.count(10));
+    }
+
+    /** All answers that tell of one state, joined into one number. */
+    private static int allAnswers() {
+        int all = x.fault() + 31 * x.refused();
+        for (int what = 0; what < 18; what++) {
+            all = 31 * all + x.count(what);
+        }
+        for (int b = 0; b < 4; b++) {
+            for (int what = 0; what < 20; what++) {
+                all = 31 * all + x.bill(b, what);
+            }
+            for (int i = 0; i < 14; i++) {
+                for (int what = 0; what < 10; what++) {
+                    all = 31 * all + x.step(b, i, what);
+                    all = 31 * all + x.party(b, i, what);
+                    all = 31 * all + x.why(b, i, what / 2, what % 2);
+                }
+            }
+            all = 31 * all + x.reach(b);
+            all = 31 * all + x.run(b, -1);
+            all = 31 * all + x.ends(b);
+        }
+        return all;
+    }
+
+    private static void imagesOfAll() {
+        anew(35);
+        x.day(1);
+        x.draw(3, 1, 12, 9, 0);
+        x.forge(0, 4, 5, 9, false);
+        x.pass(0, 10, 6, 3, true);
+        x.accept(0);
+        x.cash(1, 2);
+        x.present(0);
+        x.tell(0, -1, 1);
+        x.defend(0, 3, false);
+        x.pay(0, 1);
+        x.find(0, 6);
+        x.forge(0, 3, 7, 0, false);
+        dishonouredAs(1);
+        x.draw(2, 4, 6, 7, 8);
+        x.pass(2, 3, 5, 6, true);
+        x.pass(2, 0, 6, 6, true);
+        tape("day 3;");
+        int before = allAnswers();
+        x.image(1);
+        tape("day 9;find 0 1;");
+        x.text(true);
+        x.draw(0, 0, 0, 1, 1);
+        x.pass(0, 2, 1, 2, false);
+        x.draw(1, 1, 1, 1, 1);
+        x.find(1, 3);
+        x.draw(1, 1, 1, 1, 1);
+        x.draw(1, 1, 1, 1, 1);
+        x.again(1);
+        is(before, allAnswers());
+        // the chain goes on from the image as it would have gone on
+        x.pass(0, 3, 3, 5, false);
+        is(3, x.bill(0, 16));
+        is(-1, x.bill(0, 19));
+        x.again(1);
+        is(1, x.bill(0, 19));
+        is(1, x.text(false));
+        is(4, x.count(0));
+    }
+
+    private static void dishonouredAs(int bill) {
+        x.draw(0, 1, 2, 30, 0);
+        x.pass(bill, 1, 3, 5, false);
+        x.present(bill);
+        x.tell(bill, -1, 2);
+        x.release(bill, 2);
     }
 
     public static void main(String[] args) {
@@ -1238,6 +1446,7 @@ public final class BillRegistryPromises {
         until();
         sorts();
         images();
+        imagesOfAll();
         System.out.println(wrong == 0 ? "all promises hold" : wrong + " answers are not as due");
         if (wrong != 0) {
             System.exit(1);
