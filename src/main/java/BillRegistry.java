@@ -1200,11 +1200,11 @@ public final class BillRegistry {
 
         int fewest(Bill b) {
             trials[b.startStep].copy(b.start);
-            int few = fewestFrom(b, b.startStep);
+            int few = fewestFrom(b, trials, b.startStep);
             return few < FAR ? few : NONE;
         }
 
-        private int fewestFrom(Bill b, int at) {
+        private static int fewestFrom(Bill b, Chain[] trials, int at) {
             Chain here = trials[at];
             if (here.brokenAt != NONE) {
                 return FAR;
@@ -1216,11 +1216,11 @@ public final class BillRegistry {
             Chain next = trials[at + 1];
             next.copy(here);
             next.follow(s, at, false);
-            int few = fewestFrom(b, at + 1);
+            int few = fewestFrom(b, trials, at + 1);
             if (s.forged()) {
                 next.copy(here);
                 next.follow(s, at, true);
-                few = Math.min(few, 1 + fewestFrom(b, at + 1));
+                few = Math.min(few, 1 + fewestFrom(b, trials, at + 1));
             }
             return few;
         }
