@@ -532,7 +532,8 @@ public final class BillRegistry {
             if (payable == TO_BEARER) {
                 return true;
             }
-            loose = s.to != owner || s.to != whom;
+            // an agent holds it for the owner, so of him it is not asked that he is the owner
+            loose = s.to != whom || payable == TO_ORDER && s.to != owner;
             return false;
         }
 

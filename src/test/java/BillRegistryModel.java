@@ -73,7 +73,7 @@ public final class BillRegistryModel {
             if (e.sort == 4) return new State(c.payable, c.whom, c.owner, c.grade, true, -1, 0);
             if (e.sort == 3) {
                 if (c.payable == 'b') return gets('b', -1, c, loose, e, first);
-                boolean mine = e.to == c.owner && (c.payable == 'o' && c.whom == e.to || c.payable == 'a' && c.whom == e.to);
+                boolean mine = e.to == c.owner && c.payable == 'o' && c.whom == e.to || c.payable == 'a' && c.whom == e.to;
                 return new State(c.payable, c.whom, c.owner, c.grade, !mine, -1, 0);
             }
             if (c.payable != 'b') {

@@ -476,9 +476,11 @@ public final class BillRegistryPromises {
         x.pass(0, 3, 7, 50, false);
         chain(0, 2, 6, 2, 1, 1);
         is(0, x.bill(0, 17));
-        // back in the agent's hand, who does not own it, it stays loose
+        // back in the agent's hand it isn't loose, though he does not own it
         x.pass(0, 3, 6, 50, false);
-        chain(0, 2, 6, 2, 1, 1);
+        chain(0, 2, 6, 2, 1, 0);
+        is(1, x.bill(0, 17));
+        deliveryToAgent();
         anew(12);
         // delivered back to the owner to whose order it is, it is loose no more
         x.draw(0, 1, 2, 50, 5);
@@ -501,6 +503,45 @@ public final class BillRegistryPromises {
         chain(0, 2, 2, 2, 1, 1);
         is(7, x.bill(0, 16));
         dueCourse();
+    }
+
+    /** Terms 2: of the agent it is not asked that he is the owner, and the owner's hand is not the agent's. */
+    private static void deliveryToAgent() {
+        x.pass(0, 3, 2, 50, false);
+        chain(0, 2, 6, 2, 1, 1);
+        is(0, x.bill(0, 17));
+        // found by another one, then brought to the agent, who can pass it on
+        x.find(0, 7);
+        x.pass(0, 3, 6, 0, true);
+        chain(0, 2, 6, 2, 1, 0);
+        x.pass(0, 1, 4, 0, false);
+        chain(0, 2, 4, 2, 1, 0);
+        is(-1, x.bill(0, 16));
+        // one to whose order it is must be the owner: 4 took a lost bill without value
+        anew(12);
+        x.draw(0, 1, 12, 50, 5);
+        x.find(0, 3);
+        x.pass(0, 1, 4, 0, false);
+        x.pass(0, 3, 5, 0, false);
+        x.pass(0, 3, 4, 0, false);
+        chain(0, 0, 4, 2, 1, 1);
+        // the finder's agent has it, though the owner never passed it on
+        x.pass(0, 2, 6, 0, false);
+        chain(0, 2, 6, 2, 1, 1);
+        x.pass(0, 3, 5, 0, false);
+        chain(0, 2, 6, 2, 1, 1);
+        x.pass(0, 3, 6, 0, false);
+        chain(0, 2, 6, 2, 1, 0);
+        // a cure goes along the same chain
+        anew(12);
+        x.draw(0, 1, 2, 50, 5);
+        x.pass(0, 3, 3, 0, false);
+        x.forge(0, 2, 4, 0, false);
+        x.pass(0, 2, 5, 0, false);
+        x.pass(0, 3, 0, 0, false);
+        is(-1, x.bill(0, 19));
+        x.pass(0, 3, 5, 0, false);
+        is(1, x.bill(0, 19));
     }
 
     private static void dueCourse() {
