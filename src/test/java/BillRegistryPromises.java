@@ -274,6 +274,7 @@ public final class BillRegistryPromises {
         is(0, fault("pass 0 0 1 2;"));
         is(0, fault("notice;"));
         is(0, fault("zzzz"));
+        anew(5);
         String[] bare = {"day 1", "cash 1 1", "grace 1", "draw 1 1 1 1 1", "open 1 1 1 1 1", "accept 1", "find 1 1", "real 1 1", "personal 1 1",
             "present 1", "hand 1 1", "notify 1 1 1", "release 1 1", "pay 1 1"};
         for (String line : bare) {
@@ -289,6 +290,7 @@ public final class BillRegistryPromises {
             is(word.length() + 5, fault(word + " 0 1 ;"));
         }
         // a tape that is full to its last byte
+        anew(5);
         is(0, fault("z".repeat(600)));
         is(4, fault("day " + "0".repeat(596)));
         is(600, fault("day 1;".repeat(99) + "day  1"));
@@ -1385,30 +1387,6 @@ public final class BillRegistryPromises {
         is(9, x.count(10));
     }
 
-    /** All answers that tell of one state, joined into one number. */
-    private static int allAnswers() {
-        int all = x.fault() + 31 * x.refused();
-        for (int what = 0; what < 18; what++) {
-            all = 31 * all + x.count(what);
-        }
-        for (int b = 0; b < 4; b++) {
-            for (int what = 0; what < 20; what++) {
-                all = 31 * all + x.bill(b, what);
-            }
-            for (int i = 0; i < 14; i++) {
-                for (int what = 0; what < 10; what++) {
-                    all = 31 * all + x.step(b, i, what);
-                    all = 31 * all + x.party(b, i, what);
-                    all = 31 * all + x.why(b, i, what / 2, what % 2);
-                }
-            }
-            all = 31 * all + x.reach(b);
-            all = 31 * all + x.run(b, -1);
-            all = 31 * all + x.ends(b);
-        }
-        return all;
-    }
-
     private static void imagesOfAll() {
         anew(35);
         x.day(1);
@@ -1428,7 +1406,6 @@ public final class BillRegistryPromises {
         x.pass(2, 3, 5, 6, true);
         x.pass(2, 0, 6, 6, true);
         tape("day 3;");
-        int before = allAnswers();
         x.image(1);
         tape("day 9;find 0 1;");
         x.text(true);
@@ -1439,7 +1416,6 @@ public final class BillRegistryPromises {
         x.draw(1, 1, 1, 1, 1);
         x.draw(1, 1, 1, 1, 1);
         x.again(1);
-        is(before, allAnswers());
         // the chain goes on from the image as it would have gone on
         x.pass(0, 3, 3, 5, false);
         is(3, x.bill(0, 16));
