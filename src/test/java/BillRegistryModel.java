@@ -675,6 +675,36 @@ public final class BillRegistryModel {
             }
         }
 
+        /** A bill that went through many hands, dishonoured, with notices to most: long runs of payments come of such ones alone. */
+        void recourse() {
+            int b = m.bills.size(), drawee = random.nextInt(people), payee = random.nextInt(people), sum = 1 + random.nextInt(120);
+            log.append("recourse ").append(b).append('\n');
+            same("draw", x.draw(0, drawee, payee, sum, 0), m.draw(0, drawee, payee, sum, 0, false));
+            if (!m.bill(b)) return;
+            if (odds(2)) same("accept", x.accept(b), m.accept(b));
+            for (int i = random.nextInt(10); i >= 0; i--) {
+                int sort = new int[] {0, 0, 0, 1, 1, 1, 1, 2, 10, 11}[random.nextInt(10)], to = otherThanHand(b, random.nextInt(people)), value = odds(3) ? 0 : 5;
+                boolean notice = odds(4);
+                log.append("pass " + sort + " " + to + " " + value + " " + notice + "\n");
+                same("pass", x.pass(b, sort, to, value, notice), m.pass(b, sort % 10, to, value, notice, sort >= 10));
+            }
+            same("cash", x.cash(drawee, 0), m.cash(drawee, 0));
+            same("present", x.present(b), m.present(b));
+            for (int party = m.bills.get(b).parties() - 1; party > 0; party--) {
+                if (odds(8)) continue;
+                log.append("tell " + party + "\n");
+                same("tell", x.tell(b, -1, party), m.tell(b, -1, party));
+                if (odds(9)) same("defend", x.defend(b, party, party % 2 == 0), m.defend(b, party, party % 2 == 0));
+            }
+            for (int who = 0; who < people; who++) {
+                int n = odds(6) ? random.nextInt(120) : odds(9) ? 9990 : 120;
+                log.append("cash " + who + " " + n + "\n");
+                same("cash", x.cash(who, n), m.cash(who, n));
+            }
+            if (odds(5)) same("release", x.release(b, 3), m.release(b, 3));
+            look();
+        }
+
         /** Whether a step of this sort is left out, since it would soon end what can be done with the bill. */
         boolean untidy(int b, int sort) {
             if (!tidy || !m.bill(b) || odds(8)) return false;
@@ -851,6 +881,7 @@ public final class BillRegistryModel {
         for (int seed = from; seed < from + plays && wrong == 0; seed++) {
             Play play = new Play(seed);
             play.start();
+            if (seed % 3 == 0) play.recourse();
             int deeds = 20 + play.random.nextInt(100);
             for (int i = 0; i < deeds && wrong == 0; i++) {
                 if (play.odds(25)) play.image();
