@@ -25,7 +25,7 @@ abstract class Edges {
     private static String sentence = "";
     private static final List<String[]> quotes = new ArrayList<>();
 
-        protected static void edge(String words, Runnable test) {
+    protected static void edge(String words, Runnable test) {
         edges++;
         sentence = words;
         quotes.add(new String[] {section, words});
